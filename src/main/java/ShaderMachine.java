@@ -161,6 +161,7 @@ public final class ShaderMachine {
     /** A row of vectors; one that there isn't reads as 0 and is not written. */
     private static final class Vectors {
         static final int PARTS = 4;
+        static final int IN_ORDER = 0b11100100;
 
         private final int many;
         private final int[] parts;
@@ -180,6 +181,14 @@ public final class ShaderMachine {
 
         int part(int k, int part) {
             return hasPart(k, part) ? parts[PARTS * k + part] : 0;
+        }
+
+        /** Sets into to the parts of vector k that picks tells, two bits for each, the lowest first. */
+        void pick(int k, int picks, int[] into) {
+            boolean isThere = has(k);
+            for (int i = 0; i < into.length; i++) {
+                into[i] = isThere ? parts[PARTS * k + (picks >> (2 * i) & 3)] : 0;
+            }
         }
 
         void setPart(int k, int part, int v) {
@@ -356,8 +365,8 @@ public final class ShaderMachine {
             return source >> 2 & 31;
         }
 
-        static int part(int source, int part) {
-            return source >> (7 + 2 * part) & 3;
+        static int picks(int source) {
+            return source >> 7 & 0xFF;
         }
 
         static boolean isNegated(int source) {
@@ -719,11 +728,15 @@ public final class ShaderMachine {
 
         private void readSource(int source, int[] into) {
             Vectors file = store.sourceFile(Source.file(source));
-            int number = Source.number(source);
-            boolean isNegated = Source.isNegated(source);
-            for (int i = 0; i < into.length; i++) {
-                int v = file.part(number, Source.part(source, i));
-                into[i] = isNegated ? -v : v;
+            file.pick(Source.number(source), Source.picks(source), into);
+            if (Source.isNegated(source)) {
+                negate(into);
+            }
+        }
+
+        private static void negate(int[] parts) {
+            for (int i = 0; i < parts.length; i++) {
+                parts[i] = -parts[i];
             }
         }
 
@@ -746,7 +759,7 @@ public final class ShaderMachine {
                 case Kind.ROOT_OF_RECIPROCAL: spread(Fixed.rootOfReciprocal(a[0])); break;
                 case Kind.ROOT: spread(Fixed.rootOf(a[0])); break;
                 case Kind.CROSS: cross(); break;
-                case Kind.UNIFORM_AT: takeUniform(a[0] >> 16); break;
+                case Kind.UNIFORM_AT: store.uniforms.pick(a[0] >> 16, Vectors.IN_ORDER, result); break;
                 case Kind.WORDS_AT: takeWords(a[0] >> 16); break;
                 case Kind.TEXTURE: takeTexture(number, 0); break;
                 case Kind.TEXTURE_AT_LEVEL: takeTexture(number, a[2]); break;
@@ -779,12 +792,6 @@ public final class ShaderMachine {
                     Fixed.product(a[2], b[0]) - Fixed.product(a[0], b[2]),
                     Fixed.product(a[0], b[1]) - Fixed.product(a[1], b[0]),
                     0);
-        }
-
-        private void takeUniform(int k) {
-            for (int i = 0; i < Vectors.PARTS; i++) {
-                result[i] = store.uniforms.part(k, i);
-            }
         }
 
         private void takeWords(int k) {
