@@ -106,24 +106,26 @@ public final class ShaderMachine {
         static final int MOST = 2147483647;
         static final int LEAST = -2147483648;
 
-        private static final long SQUARE_OF_ROOTS = 1L << 48;
+        private static final long SQUARE_OF_ONE = 1L << 32;
+        private static final long CUBE_OF_ONE = 1L << 48;
         private static final long HIGHEST_ROOT_BIT = 1L << 24;
 
         static int product(int a, int b) {
             return (int) (((long) a * b) >> 16);
         }
 
-        static int quotient(int a, int b) {
+        /** The quotient of ONE by b. */
+        static int reciprocal(int b) {
             if (b == 0) {
-                return a > 0 ? MOST : a < 0 ? LEAST : 0;
+                return MOST;
             }
-            long whole = Math.floorDiv((long) a * ONE, (long) b);
+            long whole = Math.floorDiv(SQUARE_OF_ONE, (long) b);
             return (int) Math.max(LEAST, Math.min(MOST, whole));
         }
 
         static int rootOfReciprocal(int a) {
             // r * r * a is not above 2^48 just when r * r is not above 2^48 / a, down.
-            return a > 0 ? root(SQUARE_OF_ROOTS / a) : MOST;
+            return a > 0 ? root(CUBE_OF_ONE / a) : MOST;
         }
 
         static int rootOf(int a) {
@@ -755,7 +757,7 @@ public final class ShaderMachine {
             switch (kind) {
                 case Kind.DOT_OF_THREE: spread(dot(3)); break;
                 case Kind.DOT_OF_FOUR: spread(dot(4)); break;
-                case Kind.RECIPROCAL: spread(Fixed.quotient(Fixed.ONE, a[0])); break;
+                case Kind.RECIPROCAL: spread(Fixed.reciprocal(a[0])); break;
                 case Kind.ROOT_OF_RECIPROCAL: spread(Fixed.rootOfReciprocal(a[0])); break;
                 case Kind.ROOT: spread(Fixed.rootOf(a[0])); break;
                 case Kind.CROSS: cross(); break;

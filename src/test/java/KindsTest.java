@@ -210,6 +210,7 @@ public final class KindsTest {
             m.run();
             Expect.vector("source " + c[0], Code.out(m, 0), c[1], c[2], c[3], c[4]);
         }
+        negatedSources();
         ShaderMachine m = new Code()
                 .add(Code.toTemporary(1, 3), Code.in(0))
                 .add(Code.toTemporary(1, 3), Code.source(0, 3, 0b00_11_10_01, false))
@@ -219,6 +220,26 @@ public final class KindsTest {
         m.run();
         // (2, 3, 4) with (1, 2, 3)
         Expect.vector("read before it is set", Code.temporary(m, 3), ONE, -2 * ONE, ONE, 0);
+    }
+
+    private static void negatedSources() {
+        for (int negated = 0; negated < 8; negated++) {
+            int[] sources = new int[3];
+            int[] sign = new int[3];
+            for (int i = 0; i < 3; i++) {
+                boolean isNegated = (negated >> i & 1) != 0;
+                sources[i] = Code.source(1, i, Code.WZYX, isNegated);
+                sign[i] = isNegated ? -1 : 1;
+            }
+            ShaderMachine m = new Code().add(Code.toOut(5, 0), sources).end().taken("a * b + c", false, 2);
+            m.in(0, ONE, 2 * ONE, 3 * ONE, 4 * ONE);
+            m.in(1, 10, 20, 30, 40);
+            m.in(2, 1, 2, 3, 4);
+            m.run();
+            int ab = sign[0] * sign[1];
+            Expect.vector("negated " + negated, Code.out(m, 0),
+                    ab * 160 + sign[2] * 4, ab * 90 + sign[2] * 3, ab * 40 + sign[2] * 2, ab * 10 + sign[2]);
+        }
     }
 
     private static void targets() {

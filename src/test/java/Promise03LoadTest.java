@@ -6,6 +6,7 @@ public final class Promise03LoadTest {
         laterChangesDontMatter();
         stepsOfLoops();
         stateStaysOverLoad();
+        loadsAreApart();
         Expect.end();
     }
 
@@ -82,5 +83,17 @@ public final class Promise03LoadTest {
         Expect.holds("killed() tells of the latest run", m.killed());
         Expect.vector("out", Code.out(m, 0), -1, 2, 3, 4);
         Expect.vector("temporary", Code.temporary(m, 9), -1, 2, 3, 4);
+    }
+
+    /** Loops that a refused program leaves open are not around the next one. */
+    private static void loadsAreApart() {
+        ShaderMachine m = new ShaderMachine();
+        Code open = new Code().loop(9).loop(9).loop(9).loop(9).end();
+        Expect.argument("open loops", () -> open.load(m, false));
+        Expect.is("four loops behind that", new Code().loop(1).loop(1).loop(1).loop(1).times(4, Code.ENDLOOP).end().load(m, false), 9);
+        Expect.argument("open loops again", () -> open.load(m, false));
+        Expect.argument("an ENDLOOP behind that", () -> new Code().endLoop().end().load(m, false));
+        Expect.argument("too many steps", () -> new Code().loop(255).loop(255).endLoop().endLoop().end().load(m, false));
+        Expect.is("few steps behind that", new Code().go(1).end().load(m, false), 2);
     }
 }

@@ -15,6 +15,8 @@ public final class Promise09KilledTest {
         m.in(0, 1, 2, 3, Integer.MAX_VALUE);
         notKilled(m);
         killedInLoop();
+        killedInALaterRound();
+        programWithoutKill();
         Expect.end();
     }
 
@@ -47,6 +49,34 @@ public final class Promise09KilledTest {
         }
         m.in(0, 1, 0, 0, 0);
         Expect.is("run() through all loops", m.run(), 14762);
+        Expect.holds("not killed", !m.killed());
+    }
+
+    private static void killedInALaterRound() {
+        ShaderMachine m = new Code()
+                .add(Code.toTemporary(1, 0), Code.uniform(0))
+                .loop(3).loop(4)
+                .add(Code.toTemporary(3, 0), Code.temporary(0), Code.in(0))
+                .add(Code.KILL, Code.temporary(0))
+                .endLoop().endLoop().end().taken("counts down", true, 1 + 1 + 3 + 12 * 3 + 3 + 1);
+        m.in(0, 1, 0, 0, 0);
+        m.uniform(0, 5, 0, 0, 0);
+        for (int i = 0; i < 3; i++) {
+            Expect.is("run() killed in the sixth round", m.run(), 1 + 1 + 1 + 4 * 3 + 1 + 1 + 3 + 2);
+            Expect.holds("killed", m.killed());
+        }
+        m.uniform(0, 12, 0, 0, 0);
+        Expect.is("run() through all rounds", m.run(), 45);
+        Expect.holds("not killed", !m.killed());
+    }
+
+    private static void programWithoutKill() {
+        ShaderMachine m = new Code().add(Code.KILL, Code.in(0)).end().taken("kills at once", true, 2);
+        m.in(0, -1, -1, -1, -1);
+        Expect.is("run() that is killed", m.run(), 1);
+        Expect.holds("killed", m.killed());
+        Expect.is("a program without 38", m.load(3, 1, true), 1);
+        Expect.is("its run()", m.run(), 1);
         Expect.holds("not killed", !m.killed());
     }
 }
