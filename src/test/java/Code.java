@@ -14,6 +14,8 @@ final class Code {
     static final int GO_UNLESS_ABOVE = 36;
     static final int GO = 37;
     static final int KILL = 38;
+    /** Sets temporary 0.x to itself: it has one word that is not 0, so that long programs need few calls. */
+    static final int IDLE = 1 | 1 << 12;
 
     private static final String KINDS_WITH_B = " 2 3 4 5 6 7 8 9 16 17 18 19 20 21 22 23 24 25 27 28 29 ";
     private static final String KINDS_WITH_C = " 5 20 21 ";
@@ -110,6 +112,19 @@ final class Code {
         return this;
     }
 
+    /** Of a new object, whose memory is 0: it is used for 512 calls at most. */
+    Code pokeNew(ShaderMachine m, int from) {
+        for (int i = 0; i < instructions.size(); i++) {
+            for (int j = 0; j < 3; j++) {
+                int word = instructions.get(i)[j];
+                if (word != 0) {
+                    m.poke(from + 3 * i + j, word);
+                }
+            }
+        }
+        return this;
+    }
+
     int load(ShaderMachine m, boolean places) {
         return poke(m, 0).loadAgain(m, places);
     }
@@ -121,7 +136,7 @@ final class Code {
     /** Expects a load that is refused with this fault at this place. */
     void refused(String what, boolean places, int fault, int place) {
         ShaderMachine m = new ShaderMachine();
-        Expect.argument(what, () -> load(m, places));
+        Expect.argument(what, () -> pokeNew(m, 0).loadAgain(m, places));
         Expect.is(what + ": fault(0)", m.fault(0), fault);
         Expect.is(what + ": fault(1)", m.fault(1), place);
         Expect.state(what + ": run()", m::run);
@@ -130,10 +145,14 @@ final class Code {
     /** Expects a load that is taken with so many steps: the machine. */
     ShaderMachine taken(String what, boolean places, int steps) {
         ShaderMachine m = new ShaderMachine();
-        Expect.is(what, load(m, places), steps);
+        Expect.is(what, pokeNew(m, 0).loadAgain(m, places), steps);
         Expect.is(what + ": fault(0)", m.fault(0), 0);
         Expect.is(what + ": fault(1)", m.fault(1), ShaderMachine.NONE);
         return m;
+    }
+
+    static void tellIn(ShaderMachine m, int k, int... v) {
+        m.in(k, v[0], v[1], v[2], v[3]);
     }
 
     static int[] out(ShaderMachine m, int k) {

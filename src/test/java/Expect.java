@@ -9,6 +9,14 @@ final class Expect {
 
     private Expect() { }
 
+    static int asked() {
+        return asked;
+    }
+
+    static int wrong() {
+        return wrong;
+    }
+
     static void is(String what, long got, long due) {
         asked++;
         if (got != due) {

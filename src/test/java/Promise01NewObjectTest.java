@@ -1,32 +1,25 @@
 public final class Promise01NewObjectTest {
     public static void main(String[] args) {
-        Expect.is("NONE", ShaderMachine.NONE, -1);
+        new Section(Part.NEW_OBJECT)
+                .test("All vectors", Promise01NewObjectTest::vectors)
+                .test("and the memory are 0", Promise01NewObjectTest::memory)
+                .test("no program", Promise01NewObjectTest::noProgram)
+                .end();
+    }
+
+    private static void vectors() {
         ShaderMachine m = new ShaderMachine();
-        Expect.state("run() of a new object", m::run);
-        Expect.holds("not killed", !m.killed());
-        Expect.is("fault(0)", m.fault(0), 0);
-        Expect.is("fault(1)", m.fault(1), -1);
         for (int k = 0; k < 8; k++) {
             Expect.vector("out " + k, Code.out(m, k), 0, 0, 0, 0);
         }
         for (int k = 0; k < 16; k++) {
             Expect.vector("temporary " + k, Code.temporary(m, k), 0, 0, 0, 0);
         }
-        memoryIsZero();
-        vectorsAreZero();
+        vectorsThatAreRead();
         objectsAreApart();
-        Expect.end();
     }
 
-    private static void memoryIsZero() {
-        ShaderMachine m = new ShaderMachine();
-        Expect.is("one END from the 0 words at the end", m.load(1021, 1, false), 1);
-        Expect.argument("two ENDs", () -> m.load(0, 2, false));
-        Expect.is("two ENDs: fault(0)", m.fault(0), 6);
-        Expect.is("two ENDs: fault(1)", m.fault(1), 0);
-    }
-
-    private static void vectorsAreZero() {
+    private static void vectorsThatAreRead() {
         Code code = new Code();
         for (int k = 0; k < 8; k++) {
             code.add(Code.toTemporary(24, 0), Code.in(k), Code.temporary(0));
@@ -47,12 +40,36 @@ public final class Promise01NewObjectTest {
     }
 
     private static void objectsAreApart() {
-        ShaderMachine one = new Code().add(Code.toOut(1, 0), Code.in(0)).end().taken("first object", false, 2);
-        ShaderMachine other = new ShaderMachine();
+        Code code = new Code().add(Code.toOut(1, 0), Code.in(0)).end();
+        ShaderMachine one = code.taken("the first object", false, 2);
+        ShaderMachine other = code.taken("the other object", false, 2);
         one.in(0, 1, 2, 3, 4);
         one.run();
+        other.run();
         Expect.vector("the first object's out", Code.out(one, 0), 1, 2, 3, 4);
         Expect.vector("the other object's out", Code.out(other, 0), 0, 0, 0, 0);
-        Expect.state("the other object's run()", other::run);
+    }
+
+    private static void memory() {
+        ShaderMachine m = new ShaderMachine();
+        for (int from = 0; from < 1022; from += 3) {
+            Expect.is("an END from word " + from + " on", m.load(from, 1, false), 1);
+        }
+        Expect.is("an END of the last words", m.load(1021, 1, false), 1);
+        Expect.argument("two ENDs", () -> m.load(0, 2, false));
+        Expect.is("two ENDs: fault(0)", m.fault(0), 6);
+        Expect.is("two ENDs: fault(1)", m.fault(1), 0);
+    }
+
+    private static void noProgram() {
+        ShaderMachine m = new ShaderMachine();
+        Expect.state("run()", m::run);
+        Expect.state("run() again", m::run);
+        Expect.holds("not killed", !m.killed());
+        Expect.is("fault(0)", m.fault(0), 0);
+        Expect.is("fault(1)", m.fault(1), ShaderMachine.NONE);
+        ShaderMachine other = new Code().end().taken("another object's program", false, 1);
+        Expect.is("its run()", other.run(), 1);
+        Expect.state("run() without one of its own", () -> new ShaderMachine().run());
     }
 }

@@ -1,12 +1,25 @@
 public final class Promise06UniformTest {
+    private static final int MOST = Integer.MAX_VALUE;
+    private static final int LEAST = Integer.MIN_VALUE;
+
     public static void main(String[] args) {
+        new Section(Part.UNIFORM)
+                .test("A uniform, likewise", () -> {
+                    becomes();
+                    noSuchUniform();
+                })
+                .end();
+    }
+
+    private static ShaderMachine toldAll() {
         ShaderMachine m = new ShaderMachine();
         for (int k = 0; k < 32; k++) {
-            m.uniform(k, k, -k, 1000 * k, Integer.MIN_VALUE + k);
+            m.uniform(k, k, -k, 1000 * k, LEAST + k);
         }
-        for (int k : new int[] {-1, 32, 33, Integer.MIN_VALUE, Integer.MAX_VALUE, 1 << 30}) {
-            Expect.index("uniform(" + k + ", ..)", () -> m.uniform(k, 1, 1, 1, 1));
-        }
+        return m;
+    }
+
+    private static void allAreAsTold(ShaderMachine m) {
         for (int from = 0; from < 32; from += 8) {
             Code code = new Code();
             for (int k = 0; k < 8; k++) {
@@ -16,12 +29,26 @@ public final class Promise06UniformTest {
             m.run();
             for (int k = 0; k < 8; k++) {
                 int u = from + k;
-                Expect.vector("uniform " + u, Code.out(m, k), u, -u, 1000 * u, Integer.MIN_VALUE + u);
+                Expect.vector("uniform " + u, Code.out(m, k), u, -u, 1000 * u, LEAST + u);
             }
         }
-        m.uniform(31, 9, 8, 7, 6);
+    }
+
+    private static void becomes() {
+        ShaderMachine m = toldAll();
+        allAreAsTold(m);
+        m.uniform(31, MOST, LEAST, 7, 6);
+        Expect.vector("before the next run", Code.out(m, 7), 31, -31, 31000, LEAST + 31);
         m.run();
-        Expect.vector("uniform 31, told again", Code.out(m, 7), 9, 8, 7, 6);
-        Expect.end();
+        Expect.vector("uniform 31, told again", Code.out(m, 7), MOST, LEAST, 7, 6);
+        Expect.vector("uniform 30, as before", Code.out(m, 6), 30, -30, 30000, LEAST + 30);
+    }
+
+    private static void noSuchUniform() {
+        ShaderMachine m = toldAll();
+        for (int k : new int[] {-1, -32, 32, 33, 63, 64, LEAST, LEAST + 1, MOST, 1 << 30, -(1 << 30)}) {
+            Expect.index("uniform(" + k + ", ..)", () -> m.uniform(k, 1, 1, 1, 1));
+        }
+        allAreAsTold(m);
     }
 }
