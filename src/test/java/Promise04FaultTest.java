@@ -30,7 +30,7 @@ public final class Promise04FaultTest {
 
     private static void latest() {
         ShaderMachine m = withFault();
-        int[][] without = {{0, 0}, {0, 257}, {-1, 1}, {1022, 1}, {0, 342}, {257, 256}};
+        int[][] without = {{0, 0}, {0, 257}, {0, 341}, {1, 341}, {-1, 1}, {1022, 1}, {0, 342}, {257, 256}};
         for (int[] w : without) {
             Expect.index("load(" + w[0] + ", " + w[1] + ")", () -> m.load(w[0], w[1], false));
             told(m, "after a load() without its words", 2, 1);
